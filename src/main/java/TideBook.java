@@ -26,7 +26,6 @@ public final class TideBook {
 
     private final Row[] rows;
     private final Alarm[] alarms;
-    private final Scale scale;
     private final Reckoner reckoner;
     private Change latest;
     private int changes;
@@ -41,8 +40,7 @@ public final class TideBook {
             rows[i] = new Row();
         }
         alarms = new Alarm[MOST_ALARMS];
-        scale = new Scale();
-        reckoner = new Reckoner(scale);
+        reckoner = new Reckoner();
         latest = null;
         changes = 0;
         alarmCount = 0;
@@ -54,7 +52,7 @@ public final class TideBook {
         if (!takesReading(column, place) || !isExponent(e)) {
             return 0;
         }
-        changed(column).put(place, scale.times((double) m, e));
+        changed(column).put(place, reckoner.scale.times((double) m, e));
         return 1;
     }
 
@@ -70,7 +68,7 @@ public final class TideBook {
         if (!isConstant(k) || !isExponent(e) || isFull()) {
             return 0;
         }
-        changed(CONSTANT_ROW).put(k, scale.times((double) m, e));
+        changed(CONSTANT_ROW).put(k, reckoner.scale.times((double) m, e));
         return 1;
     }
 
@@ -152,30 +150,27 @@ public final class TideBook {
     }
 
     public double reading(int column, int place) {
-        if (!isNumber(column, place)) {
-            return 0.0;
-        }
-        return rows[column].numbers[place];
+        settle();
+        return isNumber(column, place) ? rows[column].numbers[place] : 0.0;
     }
 
     public boolean isBlank(int column, int place) {
-        if (!isColumn(column) || !isPlace(place)) {
-            return false;
-        }
         settle();
-        return rows[column].blankAt(place);
+        return isColumn(column) && isPlace(place) && rows[column].blankAt(place);
     }
 
     public boolean isMinus(int column, int place) {
+        settle();
         return isNumber(column, place) && hasMinus(rows[column].numbers[place]);
     }
 
     public long bits(int column, int place) {
+        settle();
         if (!isNumber(column, place)) {
             return 0L;
         }
         Row row = rows[column];
-        return scale.bitsOf(row.numbers[place], row.narrow);
+        return reckoner.scale.bitsOf(row.numbers[place], row.narrow);
     }
 
     public int compared(int column, int c, int other) {
@@ -198,6 +193,7 @@ public final class TideBook {
         if (column == BOOK) {
             return toldOfBook(what);
         }
+        settle();
         return isColumn(column) ? toldOfColumn(rows[column], what) : -1;
     }
 
@@ -210,13 +206,11 @@ public final class TideBook {
         }
     }
 
-    private int toldOfColumn(Row row, int what) {
+    private static int toldOfColumn(Row row, int what) {
         switch (what) {
             case 0: return row.hasFormula() ? 1 : 0;
             case 1: return row.narrow ? 1 : 0;
-            case 2:
-                settle();
-                return Integer.bitCount(row.blanks);
+            case 2: return Integer.bitCount(row.blanks);
             case 3: return row.f;
             default: return -1;
         }
@@ -255,11 +249,7 @@ public final class TideBook {
     }
 
     private boolean isNumber(int column, int place) {
-        if (!isColumn(column) || !isPlace(place)) {
-            return false;
-        }
-        settle();
-        return !rows[column].blankAt(place);
+        return isColumn(column) && isPlace(place) && !rows[column].blankAt(place);
     }
 
     /** Puts a copy in the row's stead, to be changed by the caller; the old row waits for back(). */
@@ -522,12 +512,10 @@ public final class TideBook {
             return result;
         }
 
-        /** The n by which size (finite, above 0) is a whole number below 2^53, times 2^n. */
-        int wideUnit(double size) {
-            return unit(size, WIDE_DIGITS, WIDE_LEAST);
-        }
-
-        private int unit(double size, int digits, int least) {
+        /** The n by which size (finite, above 0, of that width) is a whole number times 2^n. */
+        int unit(double size, boolean narrow) {
+            int digits = narrow ? NARROW_DIGITS : WIDE_DIGITS;
+            int least = narrow ? NARROW_LEAST : WIDE_LEAST;
             double rest = size;
             int exponent = 0;
             // The steps reach down to 2^-1023 alone, and the least numbers are below that.
@@ -559,7 +547,7 @@ public final class TideBook {
             if (isInfinite(size)) {
                 return sign + ((narrow ? 0xFFL : 0x7FFL) << digits);
             }
-            int n = unit(size, digits, least);
+            int n = unit(size, narrow);
             // The leading digit of a normal number, not masked off, adds the 1 that the exponent lacks.
             return sign + ((long) (n - least) << digits) + (long) times(size, -n);
         }
@@ -567,14 +555,14 @@ public final class TideBook {
 
     /** What the formulas make of two rows; its own rows hold these as brought to the width. */
     private static final class Reckoner {
-        private final Scale scale;
+        final Scale scale;
         private final Row x;
         private final Row y;
         private final double[] sorted;
         private int sortedCount;
 
-        Reckoner(Scale scale) {
-            this.scale = scale;
+        Reckoner() {
+            scale = new Scale();
             x = new Row();
             y = new Row();
             sorted = new double[PLACES];
@@ -746,8 +734,8 @@ public final class TideBook {
             if (size < step || size == 0.0) {
                 return p;
             }
-            int n = scale.wideUnit(size);
-            int stepN = scale.wideUnit(step);
+            int n = scale.unit(size, false);
+            int stepN = scale.unit(step, false);
             long divisor = (long) scale.times(step, -stepN);
             if (divisor <= 0L) {
                 return p;

@@ -329,6 +329,33 @@ public final class TideBookPromises {
         dueReading("b's own width", book, 3, 3, 0x1p26 + 2 * 16777217.0);
     }
 
+    // Each of a, b and a constant alone reaches a column, also past a column that has nothing of it.
+    private static void promise6FormulasFollowByEachWay() {
+        TideBook book = new TideBook();
+        book.formula(3, 8, 0, 16, 0);
+        book.formula(6, 18, 1, 3, 0);
+        book.formula(9, 18, 2, 6, 0);
+        book.formula(11, 9, 9, 17, 0);
+        dueReading("nothing yet", book, 11, 4, BLANK);
+        book.set(0, 4, 5, 0);
+        book.constant(1, 1, 0);
+        dueReading("a alone", book, 3, 4, -5);
+        dueReading("b alone", book, 6, 4, -5);
+        dueReading("a constant", book, 11, 4, -4);
+        book.set(0, 4, 6, 0);
+        dueReading("a alone, then b twice, then a", book, 11, 4, -5);
+        book.constant(1, 2, 0);
+        dueReading("a constant alone", book, 11, 4, -4);
+        book.set(1, 4, 1, 0);
+        book.constant(1, 3, 0);
+        book.set(5, 5, 1, 0);
+        book.back();
+        dueReading("two changes and one taken back, unlooked at", book, 11, 4, 4);
+        book.back();
+        book.back();
+        dueReading("all taken back", book, 11, 4, -4);
+    }
+
     private static void promise7Input() {
         TideBook book = new TideBook();
         putAll(book, 0, 1, 16777217, BLANK, -0.0);
@@ -459,6 +486,9 @@ public final class TideBookPromises {
         due("told(12, 0)", book.told(12, 0), 0);
         due("back", book.back(), -1);
         due("told(12, 1)", book.told(12, 1), 10);
+        due("ten alarms", book.ring(), 6 * 16);
+        due("alarmed(9, 0)", book.alarmed(9, 0), 0);
+        due("alarmed(10, 0)", book.alarmed(10, 0), -1);
     }
 
     private static void promise11Ring() {
@@ -722,7 +752,30 @@ public final class TideBookPromises {
         // Where a wide result brought to narrow would be rounded twice, or the wrong way round.
         dueFormula(9, true, 0, row(16777216, 16777216), row(1, 1 + 0x1p-23), 16777216, 16777218);
         dueFormula(26, true, 0, row(10, 1, 100), row(3, 0.3f, 0.7f), 9, 3 * 0.3f, 143 * 0.7f);
+        dueFormula(26, true, 0, row(35000036, 16396), row(70, 3 / 1024.0), 35000000, 5596502f * 3 / 1024);
+        dueFormula(26, false, 0, row(35000036, 16396), row(70, 3 / 1024.0), 35000070, 5596501 * 3 / 1024.0);
         dueFormula(26, false, 0, row(10, 1, 2.5, 7.5), row(3, 0.3f, 1, 3), 9, 3 * (double) 0.3f, 2, 6);
+    }
+
+    private static void formulasOfTheGreatestBelowZero() {
+        TideBook book = new TideBook();
+        putAll(book, 0, MAX, MAX);
+        book.constantSpecial(0, 1);
+        book.constantSpecial(1, 2);
+        book.formula(1, 8, 0, 16, 0);
+        book.formula(2, 9, 1, 16, 0);
+        book.formula(3, 10, 1, 17, 0);
+        book.formula(4, 12, 1, 17, 0);
+        book.formula(5, 13, 1, 0, 0);
+        book.formula(6, 24, 1, 16, 0);
+        book.formula(7, 9, 1, 1, 0);
+        dueColumn("-MAX", book, 1, -MAX, -MAX);
+        dueColumn("-MAX + inf", book, 2, INF, INF);
+        dueColumn("-MAX - -inf", book, 3, INF, INF);
+        dueColumn("-MAX / -inf", book, 4, 0.0, 0.0);
+        dueColumn("-MAX % MAX", book, 5, -0.0, -0.0);
+        dueColumn("-MAX - -MAX", book, 6, BLANK, 0.0);
+        dueColumn("-MAX + -MAX", book, 7, -INF, -INF);
     }
 
     private static void formulasWithComparisons() {
@@ -765,6 +818,8 @@ public final class TideBookPromises {
         dueBoth(20, 0, row(BLANK, BLANK, -0.0, 0.0, -0.0, BLANK, -1), none, BLANK, BLANK, -0.0, 0.0, 0.0, 0.0, 0.0, 0.0, 0.0, 0.0, 0.0, 0.0, 0.0, 0.0, 0.0, 0.0);
         dueBoth(21, 0, xs, none, 3, 1, 1, -5, -5, -5, -5, -5, -5, -5, -5, -INF, -INF, -INF, -INF, -INF);
         dueBoth(21, 0, row(BLANK, 0.0, -0.0, 0.0, 1), none, BLANK, 0.0, -0.0, -0.0, -0.0, -0.0, -0.0, -0.0, -0.0, -0.0, -0.0, -0.0, -0.0, -0.0, -0.0, -0.0);
+        dueBoth(20, 0, row(BLANK, 3, 1, 2), none, BLANK, 3, 3, 3, 3, 3, 3, 3, 3, 3, 3, 3, 3, 3, 3, 3);
+        dueBoth(21, 0, row(BLANK, 1, 3, 2), none, BLANK, 1, 1, 1, 1, 1, 1, 1, 1, 1, 1, 1, 1, 1, 1, 1);
         dueBoth(20, 0, none, none);
         dueBoth(21, 0, none, none);
         dueBoth(22, 0, xs, none, -INF, -5, -2, -0.0, -0.0, 0.0, 0.0, 1, 2, 3, 4, 4, 4, 8, INF, BLANK);
@@ -790,6 +845,7 @@ public final class TideBookPromises {
         promise5ConstantSpecial();
         promise6Formula();
         promise6FormulasFollow();
+        promise6FormulasFollowByEachWay();
         promise7Input();
         promise8Width();
         promise9Back();
@@ -807,6 +863,7 @@ public final class TideBookPromises {
         formulasOfOneAtTheEdges();
         formulasOfTwo();
         formulasOfTwoAtTheEdges();
+        formulasOfTheGreatestBelowZero();
         formulasWithComparisons();
         formulasOverPlaces();
         System.out.println(wrong == 0 ? "all answers are as due" : wrong + " answers are not as due");
