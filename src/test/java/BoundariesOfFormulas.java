@@ -226,10 +226,18 @@ public final class BoundariesOfFormulas extends BoundaryTest {
         both(19, 0, all(3), NONE, wants);
     }
 
+    // 1 everywhere, but for the last place.
+    private static double[] lastIs(double number) {
+        double[] numbers = all(1);
+        numbers[15] = number;
+        return numbers;
+    }
+
     private static void greatestSoFar() {
         both(20, 0, row(1, 3, 2, -INF, 4, INF, 9), NONE, 1, 3, 3, 3, 4, INF, INF, INF, INF, INF, INF, INF, INF, INF, INF, INF);
         both(20, 0, row(-INF, -3, -4), NONE, -INF, -3, -3, -3, -3, -3, -3, -3, -3, -3, -3, -3, -3, -3, -3, -3);
         both(20, 0, only(15, 7), NONE, only(15, 7));
+        both(20, 0, lastIs(2), NONE, lastIs(2));
     }
 
     private static void blankOnesLeftOut() {
@@ -246,6 +254,7 @@ public final class BoundariesOfFormulas extends BoundaryTest {
         both(21, 0, row(BLANK, 1, BLANK, BLANK, 2, -5, BLANK), NONE, BLANK, 1, 1, 1, 1, -5, -5, -5, -5, -5, -5, -5, -5, -5, -5, -5);
         both(21, 0, NONE, NONE);
         both(21, 0, only(15, 7), NONE, only(15, 7));
+        both(21, 0, lastIs(0.5), NONE, lastIs(0.5));
     }
 
     private static void sortedFromTheLeastOn() {
@@ -277,11 +286,9 @@ public final class BoundariesOfFormulas extends BoundaryTest {
         both(23, 0, row(3, 1, 2, 2, BLANK, INF, -INF), NONE, 4, 1, 2, 2, BLANK, 5, 0.0);
         both(23, 0, row(0.0, -0.0, BLANK, -0.0), NONE, 0.0, 0.0, BLANK, 0.0);
         both(23, 0, only(15, -INF), NONE, only(15, 0.0));
-        double[] xs = all(1);
-        xs[15] = 2;
         double[] wants = all(0.0);
         wants[15] = 15;
-        both(23, 0, xs, NONE, wants);
+        both(23, 0, lastIs(2), NONE, wants);
     }
 
     private static void differenceAs10() {
@@ -307,11 +314,9 @@ public final class BoundariesOfFormulas extends BoundaryTest {
     private static void countedUpToHere() {
         both(25, 0, row(1, 5, 1, 1), row(2, 2, 2, 1), 1, 1, 2, 2, 2, 2, 2, 2, 2, 2, 2, 2, 2, 2, 2, 2);
         both(25, 4, all(-0.0), row(0.0), 1, 2, 3, 4, 5, 6, 7, 8, 9, 10, 11, 12, 13, 14, 15, 16);
-        double[] xs = all(1);
-        xs[15] = 2;
         double[] wants = all(0.0);
         wants[15] = 1;
-        both(25, 4, xs, row(2), wants);
+        both(25, 4, lastIs(2), row(2), wants);
     }
 
     private static void countedNeverBlank() {

@@ -25,14 +25,23 @@ public final class BoundariesOfPromises extends BoundaryTest {
         TideBook other = fullBook();
         TideBook book = new TideBook();
         for (int column = 0; column < 12; column++) {
+            due("told(" + column + ", 0)", book.told(column, 0), 0);
+            due("told(" + column + ", 1)", book.told(column, 1), 0);
             due("told(" + column + ", 2)", book.told(column, 2), 16);
             due("told(" + column + ", 3)", book.told(column, 3), -1);
-            due("told(" + column + ", 1)", book.told(column, 1), 0);
+        }
+        for (int what = 0; what < 3; what++) {
+            due("told(12, " + what + ")", book.told(12, what), 0);
         }
         book.constant(0, 99, 0);
         book.set(0, 0, 99, 0);
-        dueReading("another book", other, 4, 0, 1);
+        book.alarm(5, 5, 5);
+        book.ring();
+        dueReading("a constant of another book", other, 4, 0, 1);
         dueReading("another book", other, 0, 0, 1.5);
+        due("alarmed(0, 0) of another book", other.alarmed(0, 0), 1);
+        due("alarmed(0, 0)", book.alarmed(0, 0), 16);
+        due("back()", book.back(), 1);
     }
 
     private static void setAtTheEdges() {

@@ -10,16 +10,15 @@ public final class BoundariesOfTerms extends BoundaryTest {
 
     private static void usedFor512Calls() {
         TideBook sets = new TideBook();
-        for (int i = 1; i <= 510; i++) {
+        for (int i = 1; i <= 512; i++) {
             due("set, call " + i, sets.set(i % 12, i % 16, i, 0), 1);
         }
-        due("told(12, 0), call 511", sets.told(12, 0), 510);
-        due("set, call 512", sets.set(0, 0, 7, 0), 1);
         TideBook changes = new TideBook();
-        for (int i = 1; i <= 511; i++) {
+        for (int i = 1; i <= 510; i++) {
             due("constant, call " + i, changes.constant(0, i, 0), 1);
         }
-        due("back(), call 512", changes.back(), 510);
+        due("told(12, 0), call 511", changes.told(12, 0), 510);
+        due("back(), call 512", changes.back(), 509);
         TideBook rings = new TideBook();
         for (int i = 1; i <= 511; i++) {
             rings.ring();
@@ -32,6 +31,57 @@ public final class BoundariesOfTerms extends BoundaryTest {
         for (int i = 255; i >= 0; i--) {
             due("back()", halves.back(), i);
         }
+    }
+
+    // Columns 1, 5 and 9 are made of columns 0, 1 and 5, and of constant 3; none of their neighbours is.
+    private static TideBook chain() {
+        TideBook book = new TideBook();
+        book.formula(9, 9, 5, 19, 0);
+        book.formula(5, 8, 1, 16, 0);
+        book.formula(1, 7, 0, 16, 0);
+        book.constant(3, 100, 0);
+        book.set(0, 2, 3, 0);
+        return book;
+    }
+
+    // Each call that looks is the first one behind a change, so that none finds what another brought about.
+    private static void alwaysWhatStandsThereNow() {
+        due("bits of reading", Double.doubleToLongBits(chain().reading(9, 2)), Double.doubleToLongBits(94));
+        due("bits", chain().bits(9, 2), Double.doubleToLongBits(94));
+        due("isBlank", chain().isBlank(9, 2), false);
+        due("isMinus", chain().isMinus(5, 2), true);
+        due("told", chain().told(9, 2), 15);
+        due("compared", chain().compared(9, 2, 5), 1);
+        TideBook ringing = chain();
+        ringing.alarm(9, 4, 9);
+        due("ring", ringing.ring(), 1);
+        TideBook input = chain();
+        input.input(9);
+        dueReading("an input", input, 9, 2, 94);
+        TideBook book = chain();
+        dueReading("a chain", book, 9, 2, 94);
+        book.set(0, 2, 4, 0);
+        dueReading("set", book, 9, 2, 92);
+        book.constant(3, 200, 0);
+        dueReading("constant", book, 9, 2, 192);
+        book.back();
+        dueReading("constant taken back", book, 9, 2, 92);
+        book.back();
+        dueReading("set taken back", book, 9, 2, 94);
+        book.formula(1, 0, 0, 16, 0);
+        dueReading("formula", book, 9, 2, 97);
+        book.back();
+        dueReading("formula taken back", book, 9, 2, 94);
+        book.set(0, 2, 16777217, 0);
+        book.width(5, true);
+        dueReading("width", book, 9, 2, 100 - 33554432);
+        book.width(9, true);
+        dueReading("width of what has an a that is not 0", book, 9, 2, 100 - 33554432);
+        book.back();
+        book.back();
+        dueReading("width taken back", book, 9, 2, 100 - 33554434);
+        book.special(0, 2, 0);
+        dueReading("special", book, 9, 2, BLANK);
     }
 
     // A number in a wide and in a narrow column, by all that tells of it.
@@ -357,6 +407,7 @@ public final class BoundariesOfTerms extends BoundaryTest {
                 dueNotCounting(f, 16, 0, 17, 11);
             } else if (!cCounts) {
                 dueNotCounting(f, 17, 0, 17, 11);
+                dueNotCounting(f, 17, 0, 17, 5);
             }
         }
         both(17, 0, row(1, 2, 3), row(2), 1);
@@ -580,6 +631,14 @@ public final class BoundariesOfTerms extends BoundaryTest {
         book.set(0, 0, 2, 0);
         book.back();
         dueReading("set taken back", book, 1, 0, 16777220);
+        book.width(0, true);
+        book.set(0, 0, 2, 0);
+        book.back();
+        due("told(0, 1) of a narrow one", book.told(0, 1), 1);
+        dueReading("set in a narrow one taken back", book, 0, 0, 16777216);
+        book.width(0, false);
+        book.back();
+        due("told(0, 1) with its way back to wide taken back", book.told(0, 1), 1);
     }
 
     private static void alarmsAreNotTakenBack() {
@@ -693,6 +752,7 @@ public final class BoundariesOfTerms extends BoundaryTest {
 
     private static void numbersAndComparisons() {
         says(USE, "An object is used for at most 512 calls after it has been made", BoundariesOfTerms::usedFor512Calls);
+        says(USE, "columns that are made of others by formulas are always what these make of what stands there now", BoundariesOfTerms::alwaysWhatStandsThereNow);
         says(NUMBERS, "among them 0 and -0", BoundariesOfTerms::zeroAndMinusZero);
         says(NUMBERS, "and one infinite number of either sign", BoundariesOfTerms::infiniteOfEitherSign);
         says(NUMBERS, "take the nearest narrow one", BoundariesOfTerms::nearestNarrow);
