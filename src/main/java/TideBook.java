@@ -688,7 +688,7 @@ public final class TideBook {
             }
         }
 
-        // Narrow numbers are reckoned as floats, since wide ones brought to narrow would be rounded twice.
+        // Narrow numbers are reckoned as floats, so that each step is rounded once, to the width.
         private double sum(double p, double q) {
             return x.narrow ? (double) ((float) p + (float) q) : p + q;
         }
